@@ -630,8 +630,11 @@ public final class GoatDoors {
             boolean tooHigh = false;
             for (int i = 0; i < length; i++) {
                 int figure = figureAt(door, i);
-                tooHigh |= figure >= base;
-                worth = worth * base + Math.min(figure, base - 1);
+                if (figure >= base) {
+                    tooHigh = true;
+                    figure = base - 1;
+                }
+                worth = worth * base + figure;
                 full *= base;
             }
             if (!tooHigh || law == LAW_GREATEST) {
