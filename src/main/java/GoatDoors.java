@@ -922,21 +922,21 @@ public final class GoatDoors {
                     && (letters && isLetter(signAt(behind)) || digits && isDigit(signAt(behind)))) {
                 behind++;
             }
-            kind = kindOf(sign, behind - start);
+            kind = kindOf(sign, letters, digits, behind - start);
         }
 
-        private static int kindOf(int sign, int signs) {
+        private static int kindOf(int sign, boolean letters, boolean digits, int signs) {
             if (signs < 1) {
                 return END;
             }
-            if (isLetter(sign)) {
+            if (letters && digits) {
+                return signs > 1 ? ROW : NO_TOKEN;
+            }
+            if (letters) {
                 return WORD;
             }
-            if (isDigit(sign)) {
+            if (digits) {
                 return NUMBER;
-            }
-            if (sign == '#' && signs > 1) {
-                return ROW;
             }
             return sign == ';' ? STOP : NO_TOKEN;
         }

@@ -75,7 +75,8 @@ public final class DaysTest {
         done(x, "hidden 0 4;", 0, 1);
         done(x, "hidden 1 1;", 0, 2);
         done(x, "hidden 1 0;", 1, 2);
-        done(x, "lent 0 1 3;hidden 0 3;", 1, 3);
+        done(x, "lent 0 1 3;hidden 0 3;hidden 0 2;", 1, 3);
+        done(x, "hidden 0 2;", 1, 3);
         Check.due("still hidden", 2, () -> x.owner(0, 2));
         done(x, "hidden 0 0;", 1, 3);
         Check.due("hidden no more", 0, () -> x.owner(0, 2));
@@ -128,6 +129,7 @@ public final class DaysTest {
         Check.due("owed to one", 1, () -> x.door(1, 1));
         done(x, "swap 1 4;", 0, 4);
         done(x, "swap 4 1;", 0, 5);
+        done(x, "rub 1;swap 1 3;", 1, 6);
     }
 
     private static void fault(String text, int fault, int place) {

@@ -129,6 +129,12 @@ public final class DebtsTest {
         Check.due("no more", 0, () -> x.safer(6, 9, 0));
         GoatDoors y = Check.told("owner 9;owner 9;owner 9;door 0 2 #10;door 2 1 #10;door 2 0 #10;");
         Check.due("spans as they were", 0, () -> y.safer(6, 9, 0));
+        GoatDoors low = Check.told("owner 9;owner 9;owner 9;door 2 1 #10;door 2 0 #5;door 0 2 #10;");
+        Check.due("doors 0 and 1", 1, () -> low.safer(6, 9, 1));
+        Check.due("one of them", 1, () -> low.safer(6, 9, 0));
+        // 0 would be safer by door 1, but owes it himself.
+        GoatDoors own = Check.told("owner 9;owner 9;owner 9;door 0 2 #10;door 0 1 #10;door 2 0 #5;");
+        Check.due("not to who owes it", 0, () -> own.safer(6, 9, 0));
         Check.noSuch("what 4", () -> x.safer(0, 40, 4));
         Check.noSuch("what -1, first", () -> x.safer(3, 2, -1));
         Check.illegal("a above b", () -> x.safer(3, 2, 0));
@@ -143,6 +149,11 @@ public final class DebtsTest {
                 + "door 0 4 #10;door 1 4 #100;door 2 4 #1000;door 3 1 #10;door 3 2 #100;door 3 0 #1000;");
         Check.due("rings", 1, () -> x.safer(2, 9, 2));
         Check.due("the first", 256 * 3 + 16 * 5 + 4, () -> x.safer(2, 9, 3));
+        // The same with lower doors, going round the other way.
+        GoatDoors y = Check.told("owner 9;owner 9;owner 9;owner 9;owner 4;"
+                + "door 3 1 #10;door 3 0 #1000;door 3 2 #100;door 0 4 #10;door 1 4 #100;door 2 4 #1000;");
+        Check.due("rings", 1, () -> y.safer(2, 9, 2));
+        Check.due("the first", 16 + 2, () -> y.safer(2, 9, 3));
         Check.days(x, "swap 3 5;swap 5 4;");
         Check.due("no more", 0, () -> x.safer(2, 9, 2));
         Check.due("no more", -1, () -> x.safer(2, 9, 3));

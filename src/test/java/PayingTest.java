@@ -91,6 +91,9 @@ public final class PayingTest {
         Check.due("alike", 0, () -> x.trade(10, 1));
         Check.due("base 0", 5, () -> x.trade(0, 0));
         Check.due("misread from base 0", 5, () -> x.trade(0, 1));
+        GoatDoors high = Check.told("owner 20;owner 20;door 0 1 #10;");
+        Check.due("base 40", 40, () -> high.trade(40, 0));
+        Check.due("between 0 and 40", 20, () -> high.trade(0, 0));
         Check.noSuch("what 2", () -> x.trade(5, 2));
         Check.noSuch("what -1, first", () -> x.trade(41, -1));
         Check.illegal("c 41", () -> x.trade(41, 0));

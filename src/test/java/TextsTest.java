@@ -11,6 +11,7 @@ public final class TextsTest {
         faultsOfOwners();
         refusedVillageChangesNothing();
         newVillageIsAllAnew();
+        faultsLeaveNothingBehind();
         wrongInputs();
         Check.end();
     }
@@ -188,6 +189,15 @@ public final class TextsTest {
             Check.due("anew: owner 1, " + i, 0, () -> x.owner(1, what));
         }
         Check.due("the image is gone", 0, () -> x.restore() ? 1 : 0);
+    }
+
+    private static void faultsLeaveNothingBehind() {
+        GoatDoors x = new GoatDoors();
+        Check.due("ten doors, a law and a fault", 1, () -> Check.village(x, FIVE + "law due;" + "door 0 1 #1;".repeat(10) + "!"));
+        Check.due("as many again", 0, () -> Check.village(x, FIVE + "law void;" + "door 0 1 #2;".repeat(10)));
+        Check.due("law", 0, () -> x.count(2));
+        Check.due("the law is told once a village", 0, () -> Check.village(x, "law greatest;"));
+        Check.due("law", 2, () -> x.count(2));
     }
 
     private static void wrongInputs() {
