@@ -461,6 +461,15 @@ public final class DayBoundsTest {
         done(x, "swap 2 0;", 0, 2);
         done(x, "swap 8 9;", 0, 3);
         done(x, "rub 0;swap 0 1;", 1, 4);
+        GoatDoors one = Check.told(village + "door 1 2 #1;");
+        done(one, "swap 0 1;", 0, 1);
+        done(one, "swap 1 0;", 0, 2);
+        done(one, "swap 0 9;", 0, 3);
+        Check.due("one door of two: to whom, as ahead", 2, () -> one.door(0, 1));
+        GoatDoors rubbed = Check.told(village + "door 1 2 #1;door 0 3 #1;");
+        done(rubbed, "rub 1;swap 0 1;", 1, 1);
+        done(rubbed, "swap 1 0;", 0, 2);
+        Check.due("a rubbed one: to whom, as ahead", 2, () -> rubbed.door(0, 1));
         cantSwap(village + "door 0 1 #1;door 1 2 #2;", 1, 2);
         cantSwap(village + "door 1 2 #1;door 0 1 #2;", 2, 1);
         cantSwap(village + "door 0 1 #1;door 1 0 #2;", 1, 0);

@@ -307,11 +307,20 @@ public final class DebtBoundsTest {
         noRing(FIVE + "door 3 1 #10;door 3 0 #1000;door 3 2 #100;" + owing + "door 1 3 #10;door 3 1 #100;");
         // Two of the doors are owed to one.
         noRing(FIVE + "door 3 1 #10;door 3 0 #1000;door 3 0 #100;" + owing);
+        // Each door would ease whom the next one is owed to, but two of them are owed to one.
+        String three = "owner 9;owner 9;owner 9;";
+        noRingOver(7, 9, three + "door 2 0 #10;door 2 1 #20;door 2 1 #30;door 0 2 #60;");
+        noRingOver(7, 9, three + "door 2 0 #30;door 2 1 #10;door 2 0 #20;door 1 2 #60;");
+        noRingOver(7, 9, three + "door 2 0 #30;door 2 0 #20;door 2 1 #10;door 1 2 #60;");
     }
 
     private static void noRing(String text) {
+        noRingOver(2, 9, text);
+    }
+
+    private static void noRingOver(int a, int b, String text) {
         GoatDoors x = Check.told(text);
-        Check.due("rings of " + text, 0, () -> x.safer(2, 9, 2));
-        Check.due("the first of " + text, -1, () -> x.safer(2, 9, 3));
+        Check.due("rings of " + text, 0, () -> x.safer(a, b, 2));
+        Check.due("the first of " + text, -1, () -> x.safer(a, b, 3));
     }
 }

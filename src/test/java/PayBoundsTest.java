@@ -85,6 +85,9 @@ public final class PayBoundsTest {
         Check.due("one has them all", 2, () -> Check.days(all, "born 0 20;census;"));
         Check.due("38 goats", 38, () -> all.voids(0, 0));
         Check.due("he could", 1, () -> all.voids(0, 1));
+        Check.due("a village anew, of two", 0, () -> Check.village(x, "owner 9;owner 9;door 0 1 #h;"));
+        Check.due("one goat", 1, () -> x.voids(0, 0));
+        Check.due("nobody of the former one", 3, () -> x.voids(0, 1));
         GoatDoors five = Check.told("owner 8;".repeat(5) + "door 0 1 #z;");
         Check.due("five goats", 5, () -> five.voids(0, 0));
         Check.due("each one could", 31, () -> five.voids(0, 1));
